@@ -186,8 +186,8 @@ public final class CellDecide {
       line.load(1);
       line.separate();
       line.arrange();
-      for (int g = 0; g < line.roots; g = line.groupEnd(g)) {
-        if (line.allVanish(g)) tellPoint(i, g);
+      for (int g = 0; g < line.roots; g++) {
+        if (line.startsGroup(g) && line.allVanish(g)) tellPoint(i, g);
       }
       polys.numbers.top = mark;
     }
@@ -572,7 +572,7 @@ public final class CellDecide {
       int c = tape[i];
       if (c >= 'a' && c <= 'z') token = findWord(i);
       else if (c >= '0' && c <= '9') token = findNumber(i);
-      else token = findSign(c, i + 1 < length ? tape[i + 1] : 0);
+      else token = findSign(i, c);
       if (token == NOTHING) fail(NO_TOKEN, place);
     }
 
@@ -613,7 +613,25 @@ public final class CellDecide {
       return i - from > MOST_NUMBER_DIGITS ? NOTHING : NUMBER;
     }
 
-    private int findSign(int c, int d) {
+    private int findSign(int from, int c) {
+      int two = from + 1 < length ? doubleSign(c, tape[from + 1]) : NOTHING;
+      if (two != NOTHING) next = from + 2;
+      return two != NOTHING ? two : singleSign(c);
+    }
+
+    private static int doubleSign(int c, int d) {
+      if (c == '-' && d == '>') return IMPLIES;
+      if (d != '=') return NOTHING;
+      switch (c) {
+        case '=': return SAME;
+        case '<': return AT_MOST;
+        case '>': return AT_LEAST;
+        case '!': return UNEQUAL;
+        default: return NOTHING;
+      }
+    }
+
+    private static int singleSign(int c) {
       switch (c) {
         case '(': return ROUND;
         case ')': return ROUND_END;
@@ -622,20 +640,14 @@ public final class CellDecide {
         case '.': return DOT;
         case ';': return SEMICOLON;
         case '+': return PLUS;
+        case '-': return MINUS;
         case '*': return TIMES;
         case '^': return POWER;
-        case '-': return longer(d == '>', IMPLIES, MINUS);
-        case '=': return longer(d == '=', SAME, EQUAL);
-        case '<': return longer(d == '=', AT_MOST, LESS);
-        case '>': return longer(d == '=', AT_LEAST, GREATER);
-        case '!': return longer(d == '=', UNEQUAL, NOTHING);
+        case '=': return EQUAL;
+        case '<': return LESS;
+        case '>': return GREATER;
         default: return NOTHING;
       }
-    }
-
-    private int longer(boolean isLonger, int two, int one) {
-      if (isLonger) next++;
-      return isLonger ? two : one;
     }
 
     private void statementRule() {
@@ -904,44 +916,47 @@ public final class CellDecide {
       return h;
     }
 
-    /** a + b, or a - b where factor is -1. */
+    /** a + b, or a - b where factor is -1; one of the two itself, where the other is 0. */
     int sum(int a, int b, int factor) {
-      int na = Math.abs(w[a]), nb = Math.abs(w[b]);
-      int need = Math.max(na, nb) + 2;
+      if (w[b] == 0) return a;
+      if (w[a] == 0 && factor > 0) return b;
+      int na = w[a] < 0 ? -w[a] : w[a], nb = w[b] < 0 ? -w[b] : w[b];
+      int need = na + nb + 2;
       if (w.length - top < need) w = Arrays.copyOf(w, 2 * (top + need));
-      int sa = Integer.signum(w[a]), sb = Integer.signum(w[b]) * factor;
+      boolean below = w[a] < 0, otherBelow = w[b] < 0 == factor > 0;
       int order = na - nb;
       for (int i = na; i > 0 && order == 0; i--) order = w[a + i] - w[b + i];
       boolean turned = order < 0;
       int big = turned ? b : a, low = turned ? a : b;
-      int nBig = Math.max(na, nb), nLow = Math.min(na, nb);
-      int direction = sa * sb < 0 ? -1 : 1;
+      int nBig = turned ? nb : na, nLow = turned ? na : nb;
+      int direction = below == otherBelow ? 1 : -1;
       int h = top, carry = 0;
-      for (int i = 1; i <= nBig; i++) {
+      for (int i = 1; i <= nLow; i++) {
         // two limbs and a carry stay below 2^31
-        int t = w[big + i] + carry + (i <= nLow ? direction * w[low + i] : 0);
-        w[h + i] = t & MASK;
-        carry = t >> BITS;
+        carry += w[big + i] + direction * w[low + i];
+        w[h + i] = carry & MASK;
+        carry >>= BITS;
+      }
+      for (int i = nLow + 1; i <= nBig; i++) {
+        carry += w[big + i];
+        w[h + i] = carry & MASK;
+        carry >>= BITS;
       }
       w[h + nBig + 1] = carry;
       int limbs = nBig + 1;
       while (limbs > 0 && w[h + limbs] == 0) limbs--;
-      w[h] = (turned ? sb : sa) < 0 ? -limbs : limbs;
+      w[h] = (turned ? otherBelow : below) ? -limbs : limbs;
       top = h + 1 + limbs;
       return h;
     }
 
     int mul(int a, int b) {
-      int na = Math.abs(w[a]), nb = Math.abs(w[b]);
+      if (w[a] == 0 || w[b] == 0) return 0;
+      int na = w[a] < 0 ? -w[a] : w[a], nb = w[b] < 0 ? -w[b] : w[b];
       int need = na + nb + 1;
       if (w.length - top < need) w = Arrays.copyOf(w, 2 * (top + need));
       int h = top;
-      if (na == 0 || nb == 0) {
-        w[h] = 0;
-        top = h + 1;
-        return h;
-      }
-      Arrays.fill(w, h + 1, h + 1 + na, 0);
+      for (int i = 1; i <= na; i++) w[h + i] = 0;
       for (int i = 1; i <= nb; i++) {
         long factor = w[b + i], carry = 0;
         int into = h + i;
@@ -961,13 +976,12 @@ public final class CellDecide {
 
     /** a times 2 to the power; a power below 0 rounds down. */
     int shift(int a, int power) {
-      int na = Math.abs(w[a]);
+      if (w[a] == 0 || power == 0) return a;
+      int na = w[a] < 0 ? -w[a] : w[a];
       int far = Math.floorDiv(power, BITS), near = power - far * BITS;
-      int need = Math.max(na + far + 3, 3);
-      if (w.length - top < need) w = Arrays.copyOf(w, 2 * (top + need));
+      int limbs = na + far + 1 > 0 ? na + far + 1 : 0;
+      if (w.length - top < limbs + 2) w = Arrays.copyOf(w, 2 * (top + limbs + 2));
       int h = top;
-      int limbs = Math.max(na + far + 1, 0);
-      if (na == 0) limbs = 0;
       for (int i = 1; i <= limbs; i++) {
         int from = i - far;
         int high = from >= 1 && from <= na ? w[a + from] : 0;
@@ -993,7 +1007,7 @@ public final class CellDecide {
 
     /** The quotient, cut towards 0; rest is what is left. */
     int div(int a, int b) {
-      int na = Math.abs(w[a]), nb = Math.abs(w[b]);
+      int na = w[a] < 0 ? -w[a] : w[a], nb = w[b] < 0 ? -w[b] : w[b];
       if (nb == 0 || na < nb) {
         rest = nb == 0 ? 0 : a;
         return 0;
@@ -1083,6 +1097,13 @@ public final class CellDecide {
       System.arraycopy(w, a, w, mark, length);
       top = mark + length;
       return mark;
+    }
+
+    /** Nearly the same number as a double; its limbs must be few. */
+    double real(int a) {
+      double v = 0;
+      for (int i = Math.abs(w[a]); i > 0; i--) v = v * (MASK + 1.0) + w[a + i];
+      return w[a] < 0 ? -v : v;
     }
 
     /** What is left of a number divided by a small one, 0 or above. */
@@ -1275,6 +1296,23 @@ public final class CellDecide {
       return h;
     }
 
+    /** a b - c d, without the two products between. */
+    int cross(int a, int b, int c, int d) {
+      Numbers n = numbers;
+      int da = n.w[a], db = n.w[b], dc = n.w[c], dd = n.w[d];
+      int first = da < 0 || db < 0 ? -1 : da + db, second = dc < 0 || dd < 0 ? -1 : dc + dd;
+      int h = make(Math.max(first, second));
+      for (int k = 0; k <= first || k <= second; k++) {
+        int mark = n.top, v = 0;
+        for (int i = Math.max(0, k - db); i <= k && i <= da && k <= first; i++) v = n.sum(v, n.mul(n.w[a + 1 + i], n.w[b + 1 + k - i]), 1);
+        for (int i = Math.max(0, k - dd); i <= k && i <= dc && k <= second; i++) v = n.sum(v, n.mul(n.w[c + 1 + i], n.w[d + 1 + k - i]), -1);
+        v = n.keep(mark, v);
+        n.w[h + 1 + k] = v;
+      }
+      trim(h);
+      return h;
+    }
+
     int derivative(int p) {
       Numbers n = numbers;
       int h = make(Math.max(n.w[p] - 1, -1));
@@ -1393,10 +1431,11 @@ public final class CellDecide {
     private static final int[] PRIMES = {13, 17, 19, 23, 29, 31, 37, 41, 43, 47, 53, 59, 61, 67, 71, 73, 79, 83, 89, 97, 101, 103, 107,
         109, 113, 127, 131, 137, 139, 149, 151, 157, 163, 167, 173, 179, 181, 191, 193, 197, 199, 211, 223, 227, 229, 233, 239, 241, 251};
     static final int FEW = 3, ALL = 49;
-    private static final int MOST = 10, ROOM = 2 * MOST + 2;
+    private static final int MOST = 10, ROOM = 2 * MOST + 2, MOST_PRIME = 251;
 
     private final Polys polys;
     private int prime = 2;
+    private final int[] inverse = new int[MOST_PRIME + 1];
     private int degree;
     private final int[] whole = new int[ROOM];
     private int parts;
@@ -1430,10 +1469,10 @@ public final class CellDecide {
       degree = polys.degree(f);
       if (degree < 1 || degree >= MOST) return false;
       for (int t = 0; t < tries && t < PRIMES.length; t++) {
-        prime = PRIMES[t];
+        takePrime(PRIMES[t]);
         int lead = polys.numbers.modulo(polys.coefficient(f, degree), prime);
         if (lead == 0) continue;
-        int turn = inverse(lead);
+        int turn = inverse[lead];
         for (int i = 0; i <= degree; i++) whole[i] = polys.numbers.modulo(polys.coefficient(f, i), prime) * turn % prime;
         System.arraycopy(whole, 0, one, 0, degree + 1);
         for (int i = 1; i <= degree; i++) two[i - 1] = whole[i] * i % prime;
@@ -1442,13 +1481,10 @@ public final class CellDecide {
       return false;
     }
 
-    private int inverse(int a) {
-      int result = 1, square = a % prime;
-      for (int e = prime - 2; e > 0; e >>= 1) {
-        if ((e & 1) != 0) result = result * square % prime;
-        square = square * square % prime;
-      }
-      return result;
+    private void takePrime(int p) {
+      prime = p;
+      inverse[1] = 1;
+      for (int i = 2; i < p; i++) inverse[i] = (p - p / i) * inverse[p % i] % p;
     }
 
     private static int trimmed(int[] a, int degree) {
@@ -1460,13 +1496,15 @@ public final class CellDecide {
     /** Leaves in a what is left of it divided by b, and the quotient in q; answers the new degree of a. */
     private int reduce(int[] a, int da, int[] b, int db, int[] q) {
       if (db < 0) return da;
-      int turn = inverse(b[db]);
+      int turn = inverse[b[db]];
       for (int k = da - db; k >= 0; k--) {
         int c = a[k + db] * turn % prime;
         q[k] = c;
         for (int i = 0; i <= db; i++) a[k + i] = (a[k + i] + (prime - c) * b[i]) % prime;
       }
-      return trimmed(a, Math.min(da, db - 1));
+      int left = Math.min(da, db - 1);
+      while (left >= 0 && a[left] == 0) left--;
+      return left;
     }
 
     /** The common divisor of one and two comes, with the highest coefficient 1, into one; answers its degree. */
@@ -1481,7 +1519,7 @@ public final class CellDecide {
         db = left;
       }
       if (da < 0) return da;
-      int turn = inverse(one[da]);
+      int turn = inverse[one[da]];
       for (int i = 0; i <= da; i++) one[i] = one[i] * turn % prime;
       return da;
     }
@@ -1518,7 +1556,7 @@ public final class CellDecide {
     }
 
     private void sweep(int k, int j) {
-      int turn = prime - inverse(matrix[k][j]);
+      int turn = prime - inverse[matrix[k][j]];
       for (int i = 0; i < degree; i++) matrix[i][j] = matrix[i][j] * turn % prime;
       for (int s = 0; s < degree; s++) {
         int c = matrix[k][s];
@@ -1592,7 +1630,7 @@ public final class CellDecide {
         da = db;
         db = left;
       }
-      int turn = db == 0 ? inverse(two[0]) : 0;
+      int turn = db == 0 ? inverse[two[0]] : 0;
       for (int j = 0; j <= MOST; j++) into[j] = into[j] * turn % prime;
     }
 
@@ -1600,7 +1638,7 @@ public final class CellDecide {
     void lift(int f) {
       Numbers n = polys.numbers;
       findHelpers();
-      int lead = polys.coefficient(f, degree), turn = inverse(n.modulo(lead, prime)), most = 0;
+      int lead = polys.coefficient(f, degree), turn = inverse[n.modulo(lead, prime)], most = 0;
       for (int i = 0; i <= degree; i++) most = Math.max(most, n.bits(polys.coefficient(f, i)));
       for (int i = 0; i < parts; i++) lifted[i] = polyOf(part[i], size[i]);
       modulus = n.small(prime);
@@ -1789,17 +1827,17 @@ public final class CellDecide {
       known[knownCount] = kept;
       knownCount++;
       if (polys.degree(f) > 1) isolate(f, kept);
-      else addRoot(kept, 1, 0).k = NONE;
+      else describe(append(), kept, 1, 0);
     }
 
-    private Root addRoot(int kept, int degree, int place) {
-      Root root = append();
+    private void describe(Root root, int kept, int degree, int place) {
       root.poly = kept;
       root.degree = degree;
       root.place = place;
+      // nothing is known yet of where it is
+      root.k = NONE;
       // the highest coefficient is above 0, and each root turns the sign
       root.left = (degree + place) % 2 == 0 ? 1 : -1;
-      return root;
     }
 
     /** Cuts what lies between two powers of 2 in halves till each piece has at most one root (Descartes' rule of signs). */
@@ -1810,7 +1848,9 @@ public final class CellDecide {
       for (int step = 0; step < ENDLESS; step++) {
         int turns = turnsBetween(f, c, power);
         if (turns == 1) {
-          n.lay(c, -power, addRoot(kept, polys.degree(f), place));
+          Root root = append();
+          describe(root, kept, polys.degree(f), place);
+          n.lay(c, -power, root);
           place++;
         }
         if (turns > 1) {
@@ -2029,6 +2069,9 @@ public final class CellDecide {
   /** One number on the outer axis, a fraction or a root, and the signs that polynomials have there. */
   private static final class Spot {
     private static final int MORE_BITS = 24;
+    /** Far below where doubles end, and few enough that rounding stays far below one of CAUTION parts. */
+    private static final int MOST_REAL_BITS = 400;
+    static final long CAUTION = 1L << 48;
 
     private final Polys polys;
     private final Numbers numbers;
@@ -2037,6 +2080,10 @@ public final class CellDecide {
     private int least;
     private int up;
     private int low;
+    private int middle;
+    private int spread;
+    double value;
+    double error;
 
     Spot(Polys polys) {
       this.polys = polys;
@@ -2080,6 +2127,16 @@ public final class CellDecide {
       return 0;
     }
 
+    boolean isZero(int g) {
+      int d = polys.degree(g);
+      if (d < 1) return d < 0;
+      if (root == null || degree == 1) return signAtFraction(g) == 0;
+      int mark = numbers.top;
+      boolean zero = d >= degree && polys.quotient(g, least) != NONE;
+      numbers.top = mark;
+      return zero;
+    }
+
     private int signAtFraction(int g) {
       Numbers n = numbers;
       int mark = n.top, d = polys.degree(g);
@@ -2092,22 +2149,50 @@ public final class CellDecide {
       return n.sign(v);
     }
 
-    /** The sign that a polynomial has all over the piece where the root is known to lie; 0, if that may be none. */
+    /**
+     * The sign that a polynomial has all over the piece where the root is known to lie; 0, if that may be none.
+     * Its value there, times 2 to the power k, is nowhere farther from middle than spread.
+     */
     private int surelySignOf(int g) {
       Numbers n = numbers;
-      int mark = n.top, k = root.k;
+      int mark = n.top, k = root.k, d = polys.degree(g);
       int a = n.bring(root), one = n.small(1), two = n.small(2);
       int most = n.sum(n.sum(0, a, n.sign(a)), one, 1);
-      int v = n.shift(polys.coefficient(g, polys.degree(g)), k), off = 0;
-      for (int i = polys.degree(g) - 1; i >= 0; i--) {
+      int v = n.shift(polys.coefficient(g, d), k), off = 0;
+      for (int i = d - 1; i >= 0; i--) {
         int far = n.sum(n.mul(off, most), n.sum(0, v, n.sign(v)), 1);
         off = n.sum(n.shift(far, -k), two, 1);
         v = n.sum(n.shift(n.mul(v, a), -k), n.shift(polys.coefficient(g, i), k), 1);
       }
+      middle = v;
+      spread = off;
       int sign = n.sign(v);
       boolean sure = n.compare(n.sum(0, v, sign), off) > 0;
       n.top = mark;
       return sure ? sign : 0;
+    }
+
+    /** Whether the value of a polynomial of degree 3 at most fits into doubles: its middle and how far it may be off. */
+    boolean measure(int g) {
+      Numbers n = numbers;
+      int mark = n.top;
+      if (root == null || degree == 1) {
+        int v = polys.coefficient(g, 3), below = low;
+        for (int i = 2; i >= 0; i--) {
+          v = n.sum(n.mul(v, up), n.mul(polys.coefficient(g, i), below), 1);
+          below = n.mul(below, low);
+        }
+        middle = v;
+        spread = 0;
+      } else {
+        surelySignOf(g);
+      }
+      n.top = mark;
+      if (n.bits(middle) > MOST_REAL_BITS || n.bits(spread) > MOST_REAL_BITS) return false;
+      value = n.real(middle);
+      double off = n.real(spread);
+      error = off + (off + (value < 0 ? -value : value)) / CAUTION;
+      return true;
     }
 
     private void halveRoot() {
@@ -2136,6 +2221,9 @@ public final class CellDecide {
     final int[] degree = new int[MOST];
     /** For two curves what is 0 where they may meet, or 0, if that was not asked. */
     private final int[] meeting = new int[MOST * MOST];
+    /** For each curve of degree 2 or 3 its discriminant, and for one of degree 3 its middle term. */
+    private final int[] turn = new int[MOST];
+    private final int[] middle = new int[MOST];
     /** Bezout's matrix of two curves, its upper half row by row. */
     private final int[] matrix = new int[6];
 
@@ -2160,6 +2248,8 @@ public final class CellDecide {
           coefficient[i * POWERS + inner] = h;
           if (polys.degree(h) >= 0) degree[i] = inner;
         }
+        if (degree[i] == 2) turn[i] = squareTerm(i);
+        if (degree[i] == 3) takeCubic(i);
       }
     }
 
@@ -2168,41 +2258,44 @@ public final class CellDecide {
     }
 
     /** b^2 - 4 a c. */
-    int squareTerm(int i) {
+    private int squareTerm(int i) {
       int b = coefficient(i, 1);
       int ac = polys.product(coefficient(i, 2), coefficient(i, 0));
       return polys.sum(polys.product(b, b), polys.scale(ac, numbers.small(4)), -1);
     }
 
     /** b^2 - 3 a c of a cubic: 0 as well where all three roots are one. */
-    int cubicTerm(int i) {
+    private int cubicTerm(int i) {
       int b = coefficient(i, 2);
       int ac = polys.product(coefficient(i, 3), coefficient(i, 1));
       return polys.sum(polys.product(b, b), polys.scale(ac, numbers.small(3)), -1);
     }
 
-    /** 2 b^3 - 9 a b c + 27 a^2 d: its sign is that of the cubic at the mean of its roots. */
-    int middleTerm(int i) {
+    /** The middle term is 2 b^3 - 9 a b c + 27 a^2 d, the discriminant comes times 27 a^2. */
+    private void takeCubic(int i) {
       int a = coefficient(i, 3), b = coefficient(i, 2);
       int first = polys.scale(polys.product(b, polys.product(b, b)), numbers.small(2));
       int second = polys.scale(polys.product(a, polys.product(b, coefficient(i, 1))), numbers.small(9));
       int third = polys.scale(polys.product(a, polys.product(a, coefficient(i, 0))), numbers.small(27));
-      return polys.sum(polys.sum(first, second, -1), third, 1);
+      int q = polys.sum(polys.sum(first, second, -1), third, 1), p = cubicTerm(i);
+      middle[i] = q;
+      turn[i] = polys.sum(polys.scale(polys.product(p, polys.product(p, p)), numbers.small(4)), polys.product(q, q), -1);
     }
 
-    /** A cubic's discriminant times 27 a^2. */
-    int cubicDiscriminant(int i) {
-      int p = cubicTerm(i), q = middleTerm(i);
-      int first = polys.scale(polys.product(p, polys.product(p, p)), numbers.small(4));
-      return polys.sum(first, polys.product(q, q), -1);
+    /** Of a curve of degree 2 or 3: above 0, 0 or below 0 where all its roots are real and apart, two are one, two are not real. */
+    int discriminant(int i) {
+      return turn[i];
+    }
+
+    /** Its sign is that of the cubic at the mean of its roots. */
+    int middleTerm(int i) {
+      return middle[i];
     }
 
     /** What is 0 where the curve has fewer points than beside it. */
     int turns(int i) {
-      if (degree[i] == 2) return squareTerm(i);
       if (degree[i] < 2) return polys.make(-1);
-      int result = cubicDiscriminant(i);
-      return polys.degree(result) < 0 ? cubicTerm(i) : result;
+      return polys.degree(turn[i]) < 0 && degree[i] == 3 ? cubicTerm(i) : turn[i];
     }
 
     /** What is 0 where two curves have more points in common than beside it. */
@@ -2222,39 +2315,29 @@ public final class CellDecide {
 
     /** Bezout's matrix of two curves up to the powers di, dj of the inner variable. */
     void bezout(int i, int di, int j, int dj) {
-      for (int s = 0, at = 0; s < 3; s++) {
-        for (int t = s; t < 3; t++) {
-          matrix[at] = bracket(i, di, j, dj, t + 1, s);
-          at++;
+      int zero = polys.make(-1);
+      for (int s = 0, next = 0; s < 3; s++) {
+        int p = s <= di ? coefficient(i, s) : zero, q = s <= dj ? coefficient(j, s) : zero;
+        for (int t = s + 1; t <= 3; t++) {
+          matrix[next] = polys.cross(t <= di ? coefficient(i, t) : zero, q, p, t <= dj ? coefficient(j, t) : zero);
+          next++;
         }
       }
       matrix[3] = polys.sum(matrix[3], matrix[2], 1);
-    }
-
-    /** p_high q_low - p_low q_high. */
-    private int bracket(int i, int di, int j, int dj, int high, int low) {
-      int first = high <= di && low <= dj ? polys.product(coefficient(i, high), coefficient(j, low)) : polys.make(-1);
-      int second = low <= di && high <= dj ? polys.product(coefficient(i, low), coefficient(j, high)) : polys.make(-1);
-      return polys.sum(first, second, -1);
     }
 
     /** The minor of the last rows and columns but k, where most is the greater degree: 0, if more than k roots are common. */
     int minor(int most, int k) {
       int[] m = matrix;
       if (most == 3 && k == 0) {
-        int first = polys.product(m[0], determinant(m[3], m[5], m[4], m[4]));
-        int second = polys.product(m[1], determinant(m[1], m[5], m[4], m[2]));
-        int third = polys.product(m[2], determinant(m[1], m[4], m[3], m[2]));
+        int first = polys.product(m[0], polys.cross(m[3], m[5], m[4], m[4]));
+        int second = polys.product(m[1], polys.cross(m[1], m[5], m[4], m[2]));
+        int third = polys.product(m[2], polys.cross(m[1], m[4], m[3], m[2]));
         return polys.sum(polys.sum(first, second, -1), third, 1);
       }
-      if (most == 3) return k == 1 ? determinant(m[3], m[5], m[4], m[4]) : m[5];
-      if (most == 2) return k == 0 ? determinant(m[0], m[3], m[1], m[1]) : m[3];
+      if (most == 3) return k == 1 ? polys.cross(m[3], m[5], m[4], m[4]) : m[5];
+      if (most == 2) return k == 0 ? polys.cross(m[0], m[3], m[1], m[1]) : m[3];
       return m[0];
-    }
-
-    /** a b - c d. */
-    private int determinant(int a, int b, int c, int d) {
-      return polys.sum(polys.product(a, b), polys.product(c, d), -1);
     }
 
     /** For two cubics with two roots in common: b^2 - 4 a c of the square polynomial that has these. */
@@ -2286,6 +2369,9 @@ public final class CellDecide {
     /** How a root is sought: whether it is above 0, then by powers of 2 upwards or downwards, then by halves. */
     private static final int START = 0, UPWARDS = 1, DOWNWARDS = 2, BY_HALVES = 3;
     private static final int UNKNOWN = -1;
+    /** How many ways there are to choose t of j: at 4 j + t. */
+    private static final int[] CHOOSE = {1, 0, 0, 0, 1, 1, 0, 0, 1, 2, 1, 0, 1, 3, 3, 1};
+    private static final int MOST_EXACT_BITS = 52, MOST_SHIFT = 60;
 
     private final Curves curves;
     private final Spot spot;
@@ -2298,6 +2384,10 @@ public final class CellDecide {
     private final int[] lead = new int[CURVES];
     /** Whether a cubic has just one real root, so that its sign alone tells the side. */
     private final boolean[] single = new boolean[CURVES];
+    /** Whether doubles can try first, the coefficients as doubles, and how far these may be off. */
+    private final boolean[] quick = new boolean[CURVES];
+    private final double[] value = new double[CURVES * 4];
+    private final double[] error = new double[CURVES * 4];
     int roots;
     private final Root[] root = new Root[ROOTS];
     final int[] order = new int[ROOTS];
@@ -2355,17 +2445,27 @@ public final class CellDecide {
       degree[l] = d;
       lead[l] = sign;
       single[l] = false;
+      if (d > 0) measure(l);
       if (d == 1) addRoot(l, 1, 1);
       if (d == 2) {
-        int turn = spot.signOf(curves.squareTerm(i));
+        int turn = spot.signOf(curves.discriminant(i));
         if (turn == 0) addRoot(l, 1, 2);
         for (int rank = 1; rank <= 2 && turn > 0; rank++) addRoot(l, rank, 1);
       }
       if (d == 3) loadCubic(l, i);
     }
 
+    private void measure(int l) {
+      quick[l] = true;
+      for (int j = 0; j <= degree[l] && quick[l]; j++) {
+        quick[l] = spot.measure(curves.coefficient(curve[l], j));
+        value[4 * l + j] = spot.value;
+        error[4 * l + j] = spot.error;
+      }
+    }
+
     private void loadCubic(int l, int i) {
-      int turn = spot.signOf(curves.cubicDiscriminant(i));
+      int turn = spot.signOf(curves.discriminant(i));
       single[l] = turn < 0;
       if (turn < 0) addRoot(l, 1, 1);
       for (int rank = 1; rank <= 3 && turn > 0; rank++) addRoot(l, rank, 1);
@@ -2396,7 +2496,7 @@ public final class CellDecide {
       for (int r = 0; r < roots; r++) {
         for (int i = 0; i < ENDLESS && root[r].phase != BY_HALVES; i++) step(r);
       }
-      Arrays.fill(close, true);
+      for (int i = 0; i < close.length; i++) close[i] = true;
       for (int round = 0; round < ENDLESS; round++) {
         countPairs();
         for (int l = 0; l < count * count; l++) {
@@ -2453,10 +2553,10 @@ public final class CellDecide {
       int i = curve[low], j = curve[high], di = degree[low], dj = degree[high];
       int known = curves.meeting(i, j), least = Math.min(di, dj), mark = numbers.top;
       boolean whole = di == curves.degree[i] && dj == curves.degree[j];
-      if (known != 0 && whole && polys.degree(known) >= 0 && spot.signOf(known) != 0) return 0;
+      if (known != 0 && whole && !spot.isZero(known)) return 0;
       curves.bezout(i, di, j, dj);
       int k = 0;
-      while (k < least && spot.signOf(curves.minor(Math.max(di, dj), k)) == 0) k++;
+      while (k < least && spot.isZero(curves.minor(Math.max(di, dj), k))) k++;
       int result = k;
       if (k == least) result = rootsOf(di <= dj ? low : high);
       else if (k == 2) result = 1 + spot.signOf(curves.commonSquareTerm());
@@ -2483,8 +2583,11 @@ public final class CellDecide {
       int c = probe(here);
       int up = k < 0 ? n.shift(c, -k) : c, low = n.shift(n.small(1), Math.max(k, 0));
       int l = here.curve, d = degree[l], before = lead[l], turns = 0;
+      boolean tries = quick[l] && n.bits(up) <= MOST_EXACT_BITS && k <= MOST_SHIFT;
+      double y = tries ? n.real(up) / (1L << Math.max(k, 0)) : 0;
       for (int t = single[l] ? 0 : d - 1; t >= 0; t--) {
-        int sign = spot.signOf(curves.taylor(curve[l], d, t, up, low));
+        int sign = tries ? quickSign(l, t, y) : 0;
+        if (sign == 0) sign = spot.signOf(curves.taylor(curve[l], d, t, up, low));
         if (sign * before < 0) turns++;
         if (sign != 0) before = sign;
       }
@@ -2493,6 +2596,19 @@ public final class CellDecide {
       if (here.phase != BY_HALVES) reach(here, above);
       else n.lay(above ? c : n.sum(c, n.small(1), -1), k, here);
       n.top = mark;
+    }
+
+    /** The sign of the coefficient of the power t of a curve seen from y, if doubles can tell it; else 0. */
+    private int quickSign(int l, int t, double y) {
+      double v = 0, off = 0, size = y < 0 ? -y : y;
+      for (int j = degree[l]; j >= t; j--) {
+        double part = value[4 * l + j] * CHOOSE[4 * j + t], before = v * y;
+        v = before + part;
+        off = off * size + error[4 * l + j] * CHOOSE[4 * j + t]
+            + ((before < 0 ? -before : before) + (part < 0 ? -part : part)) / Spot.CAUTION;
+      }
+      off += off / Spot.CAUTION;
+      return v > off ? 1 : v < -off ? -1 : 0;
     }
 
     /** The number to ask about next. */
@@ -2527,9 +2643,14 @@ public final class CellDecide {
       }
     }
 
-    int groupEnd(int g) {
+    /** Whether a root is the first of those that are the same. */
+    boolean startsGroup(int g) {
+      return g == 0 || compare(root[order[g - 1]], root[order[g]]) != 0;
+    }
+
+    private int groupEnd(int g) {
       int next = g + 1;
-      while (next < roots && compare(root[order[g]], root[order[next]]) == 0) next++;
+      while (next < roots && !startsGroup(next)) next++;
       return next;
     }
 
@@ -2547,7 +2668,8 @@ public final class CellDecide {
       int[] sign = statement.sign;
       for (int l = 0; l < count; l++) sign[curve[l]] = degree[l] > 0 && degree[l] % 2 == 1 ? -lead[l] : lead[l];
       if (statement.truth(q) == some) return some;
-      for (int g = 0; g < roots; ) {
+      for (int g = 0; g < roots; g++) {
+        if (!startsGroup(g)) continue;
         int stop = groupEnd(g), turned = 0;
         for (int i = g; i < stop; i++) {
           Root r = root[order[i]];
@@ -2561,7 +2683,6 @@ public final class CellDecide {
           sign[curve[l]] = (turned >> l & 1) != 0 ? -lead[l] : lead[l];
         }
         if (statement.truth(q) == some) return some;
-        g = stop;
       }
       return !some;
     }
