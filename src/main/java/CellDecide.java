@@ -72,13 +72,13 @@ public final class CellDecide {
 
   public int decide() {
     if (!statement.there || statement.free != 0) return STATE;
-    for (int q = 0; q < statement.quantifiers; q++) {
+    for (int q = 0; q < statement.quantifiers && statement.answer == NONE; q++) {
       if (statement.parent[q] == OUTERMOST) {
         prepare(q, statement.variable[q]);
         statement.value[q] = truthOfQuantifier(q);
       }
     }
-    return statement.truthOfConstants() ? 1 : 0;
+    return statement.closedAnswer();
   }
 
   public int holds(int xUp, int xLow, int yUp, int yLow) {
@@ -87,13 +87,13 @@ public final class CellDecide {
     if (x && !isFraction(xUp, xLow) || y && !isFraction(yUp, yLow)) return OUTSIDE;
     if (x || y) return truthAt(x ? xUp : yUp, x ? xLow : yLow, yUp, yLow) ? 1 : 0;
     // the same loop as in decide(): one call more would go too deep
-    for (int q = 0; q < statement.quantifiers; q++) {
+    for (int q = 0; q < statement.quantifiers && statement.answer == NONE; q++) {
       if (statement.parent[q] == OUTERMOST) {
         prepare(q, statement.variable[q]);
         statement.value[q] = truthOfQuantifier(q);
       }
     }
-    return statement.truthOfConstants() ? 1 : 0;
+    return statement.closedAnswer();
   }
 
   private static boolean isFraction(int up, int low) {
@@ -341,6 +341,8 @@ public final class CellDecide {
 
     boolean there;
     int free;
+    /** Whether it is so, once that has been found; else NONE. */
+    int answer = NONE;
     int length;
     final int[] code = new int[CODE];
     private final boolean[] stack = new boolean[CODE];
@@ -363,6 +365,7 @@ public final class CellDecide {
     void clear() {
       there = false;
       free = 0;
+      answer = NONE;
       length = 0;
       comparisons = 0;
       quantifiers = 0;
@@ -393,12 +396,14 @@ public final class CellDecide {
       emit(CLOSE, q);
     }
 
-    /** The truth of a statement without free variables, when the values of its outer 'some' and 'all' are known. */
-    boolean truthOfConstants() {
+    /** Whether a statement without free variables is so, when the values of its outer 'some' and 'all' are known. */
+    int closedAnswer() {
+      if (answer != NONE) return answer;
       for (int i = 0; i < comparisons; i++) {
         if (holder[i] == OUTERMOST) sign[i] = Integer.signum(poly[i][0]);
       }
-      return truth(OUTERMOST);
+      answer = truth(OUTERMOST) ? 1 : 0;
+      return answer;
     }
 
     /** The truth of a part, when the signs of its comparisons and the values of the parts inside it are known. */
@@ -2499,10 +2504,11 @@ public final class CellDecide {
       for (int i = 0; i < close.length; i++) close[i] = true;
       for (int round = 0; round < ENDLESS; round++) {
         countPairs();
-        for (int l = 0; l < count * count; l++) {
-          int high = l / Math.max(count, 1), low = l % Math.max(count, 1);
-          int both = low * CURVES + high;
-          if (low < high && pairs[both] > 0 && shared[both] == UNKNOWN) shared[both] = commonRoots(low, high);
+        for (int high = 1; high < count; high++) {
+          for (int low = 0; low < high; low++) {
+            int both = low * CURVES + high;
+            if (pairs[both] > 0 && shared[both] == UNKNOWN) shared[both] = commonRoots(low, high);
+          }
         }
         if (!findDoubts()) return;
         for (int r = 0; r < roots; r++) {
