@@ -1984,7 +1984,7 @@ public final class CellDecide {
       for (int i = 1; i < count; i++) {
         Root root = list.get(i);
         int low = 0, high = i;
-        while (low < high) {
+        for (int step = 0; step < 32 && low < high; step++) {
           int middle = (low + high) / 2;
           if (compare(list.get(middle), root) < 0) low = middle + 1;
           else high = middle;
