@@ -4,6 +4,12 @@ import java.nio.charset.StandardCharsets;
 final class Check {
   private int asked;
   private int wrong;
+  private String sentence = "";
+
+  /** Names the part of the document and the sentence in it that the answers from here on are of. */
+  void of(String part, String words) {
+    sentence = part + ", \"" + words + "\": ";
+  }
 
   void due(String call, long got, long want) {
     due(call, Long.toString(got), Long.toString(want));
@@ -13,7 +19,7 @@ final class Check {
     asked++;
     if (got.equals(want)) return;
     wrong++;
-    System.out.println(call + " answered " + got + ", due is " + want);
+    System.out.println(sentence + call + " answered " + got + ", due is " + want);
   }
 
   /** Ends the test. */
@@ -48,6 +54,25 @@ final class Check {
     return cells.meet();
   }
 
+  /** How many bytes the tape has after twenty more; NONE, if feed refuses them. */
+  static int feed(CellDecide cells) {
+    try {
+      return cells.feed(0x20202020, 0x20202020, 0x20202020, 0x20202020, 0x20202020);
+    } catch (IllegalStateException e) {
+      return CellDecide.NONE;
+    }
+  }
+
+  /** Whether end(n) cuts the tape (1) or refuses it (0). */
+  static int end(CellDecide cells, int n) {
+    try {
+      cells.end(n);
+      return 1;
+    } catch (IllegalArgumentException e) {
+      return 0;
+    }
+  }
+
   /** The text that was written, if a call answered how long it is; else the refusal. */
   static String written(CellDecide cells, int answer) {
     if (answer < 0) return Integer.toString(answer);
@@ -55,6 +80,42 @@ final class Check {
     for (int i = 0; i < answer; i++) text.append((char) cells.at(i));
     if (cells.at(answer) != CellDecide.NONE) text.append(" and more");
     return text.toString();
+  }
+
+  /** The set as text: ( [ ) ] for ends, least polynomial and place of each (of one number alone twice), then how many members. */
+  static String set(CellDecide cells, String text) {
+    read(cells, text);
+    int count = cells.solve();
+    StringBuilder told = new StringBuilder();
+    for (int i = 0; i < count; i++) {
+      told.append(i == 0 ? "" : " ");
+      told.append(cells.interval(i, 0) == 2 ? '[' : '(').append(end(cells, i, 0)).append(", ").append(end(cells, i, 1));
+      told.append(cells.interval(i, 1) == 2 ? ']' : ')');
+    }
+    return told.append(count < 0 ? Integer.toString(count) : "").append(" : ").append(cells.members()).toString();
+  }
+
+  private static String end(CellDecide cells, int i, int end) {
+    if (cells.interval(i, end) == 0) {
+      boolean none = cells.interval(i, 2 + 2 * end) == CellDecide.NONE && cells.interval(i, 3 + 2 * end) == CellDecide.NONE;
+      return none && cells.write(i, end, 0) == CellDecide.OUTSIDE && cells.writeLeast(i, end) == CellDecide.OUTSIDE ? "all" : "wrong";
+    }
+    return written(cells, cells.writeLeast(i, end)) + "#" + cells.interval(i, 3 + 2 * end);
+  }
+
+  /** The points as text: how many, then least polynomial and place of x and y of each. */
+  static String points(CellDecide cells, String text) {
+    int count = meet(cells, text);
+    StringBuilder told = new StringBuilder();
+    told.append(count);
+    for (int i = 0; i < count; i++) {
+      for (int axis = 0; axis < 2; axis++) {
+        told.append(axis == 0 ? " (" : ", ").append(written(cells, cells.writePointLeast(i, axis)));
+        told.append('#').append(cells.point(i, 2 * axis + 1));
+      }
+      told.append(')');
+    }
+    return told.toString();
   }
 
   /** All that is told of a statement, in one line. */

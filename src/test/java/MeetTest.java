@@ -12,22 +12,8 @@ public final class MeetTest {
     CHECK.finish();
   }
 
-  private static String told(CellDecide cells, String text) {
-    int count = Check.meet(cells, text);
-    StringBuilder told = new StringBuilder();
-    told.append(count);
-    for (int i = 0; i < count; i++) {
-      for (int axis = 0; axis < 2; axis++) {
-        told.append(axis == 0 ? " (" : ", ").append(Check.written(cells, cells.writePointLeast(i, axis)));
-        told.append('#').append(cells.point(i, 2 * axis + 1));
-      }
-      told.append(')');
-    }
-    return told.toString();
-  }
-
   private static void meet(String text, String want) {
-    CHECK.due("meet of " + text, told(new CellDecide(), text), want);
+    CHECK.due("meet of " + text, Check.points(new CellDecide(), text), want);
   }
 
   private static void points() {

@@ -14,29 +14,8 @@ public final class SolveTest {
     CHECK.finish();
   }
 
-  /** The set as text: ( [ ) ] for ends, least polynomial and place of each, { } for one number. */
-  private static String set(CellDecide cells, String text) {
-    Check.read(cells, text);
-    int count = cells.solve();
-    StringBuilder told = new StringBuilder();
-    for (int i = 0; i < count; i++) {
-      told.append(i == 0 ? "" : " ");
-      told.append(cells.interval(i, 0) == 2 ? '[' : '(').append(end(cells, i, 0)).append(", ").append(end(cells, i, 1));
-      told.append(cells.interval(i, 1) == 2 ? ']' : ')');
-    }
-    return told.append(count < 0 ? Integer.toString(count) : "").append(" : ").append(cells.members()).toString();
-  }
-
-  private static String end(CellDecide cells, int i, int end) {
-    if (cells.interval(i, end) == 0) {
-      boolean none = cells.interval(i, 2 + 2 * end) == CellDecide.NONE && cells.interval(i, 3 + 2 * end) == CellDecide.NONE;
-      return none && cells.write(i, end, 0) == CellDecide.OUTSIDE && cells.writeLeast(i, end) == CellDecide.OUTSIDE ? "all" : "wrong";
-    }
-    return Check.written(cells, cells.writeLeast(i, end)) + "#" + cells.interval(i, 3 + 2 * end);
-  }
-
   private static void solve(String text, String want) {
-    CHECK.due("set of " + text, set(new CellDecide(), text), want);
+    CHECK.due("set of " + text, Check.set(new CellDecide(), text), want);
   }
 
   private static void oneVariable() {
