@@ -6,9 +6,13 @@ final class Check {
   private int wrong;
   private String sentence = "";
 
-  /** Names the part of the document and the sentence in it that the answers from here on are of. */
+  /** Names the part of the document and the sentence in it (a [..] stands for words left out) that the answers from here on are of. */
   void of(String part, String words) {
-    sentence = part + ", \"" + words + "\": ";
+    of(part, words, "");
+  }
+
+  void of(String part, String words, String remark) {
+    sentence = part + ", \"" + words + "\"" + (remark.isEmpty() ? "" : ", " + remark) + ": ";
   }
 
   void due(String call, long got, long want) {

@@ -14,6 +14,7 @@ public final class EdgeCallsTest {
     readFree();
     readOneBefore();
     readFault();
+    readAfterFaults();
     faultOfLatest();
     decideSo();
     decideState();
@@ -216,6 +217,23 @@ public final class EdgeCallsTest {
     }
   }
 
+  private static void readAfterFaults() {
+    CHECK.of("Promise 4", "The one before is there no more.", "nor is what a text with a fault had open, bound or counted");
+    String[] faults = {"some 1. true", "all )", "some x. some x. true", "some x. all y. foo", "not not ((((", "[[[[[[[[[[[x", "x<1 and y^4<",
+        "1<2 and 1<2 and 1<2 and 1<2 and 1<2 and 1<2", "x<y and (some x. true)", "x^4<1 or y<1"};
+    CellDecide cells = new CellDecide();
+    for (String fault : faults) {
+      for (int i = 0; i < 3; i++) CHECK.due("fault in " + fault, Check.read(cells, fault) <= -1000 ? 1 : 0, 1);
+      CHECK.due("ten open after " + fault, Check.read(cells, "((((((((some x. all y. true))))))))"), 0);
+      CHECK.due("it is so", cells.decide(), 1);
+      for (int i = 0; i < 3; i++) Check.read(cells, fault);
+      CHECK.due("five comparisons after " + fault, Check.read(cells, "some y. y=x or y=1 or y=2 or y=3 or y=4"), 1);
+      CHECK.due("solve after " + fault, cells.solve(), 1);
+      for (int i = 0; i < 3; i++) Check.meet(cells, fault);
+      CHECK.due("meet after " + fault, Check.meet(cells, "[[[[[[[[[[x]]]]]]]]]];y"), 1);
+    }
+  }
+
   private static void faultOfLatest() {
     CHECK.of("Promise 5", "The KIND of the FAULT of the latest read() or meet(); 0 without one.");
     CellDecide cells = new CellDecide();
@@ -294,6 +312,9 @@ public final class EdgeCallsTest {
     holds("all x. x^2+x*y+1>0", 0, 0, 1999, 1000, 1);
     holds("all x. x^2+x*y+1>0", 0, 0, 2, 1, 0);
     holds("(some x. x^2=2) and y=3", 0, 0, 3, 1, 1);
+    holds("some x. x^2=2", 0, 0, 0, 0, 1);
+    holds("some x. x^2=-2", 0, 0, 0, 0, 0);
+    holds("(all x. some y. x<y) and not (some y. all x. x<y)", 0, 0, 0, 0, 1);
   }
 
   private static void holds(String text, int xUp, int xLow, int yUp, int yLow, int want) {
@@ -477,7 +498,7 @@ public final class EdgeCallsTest {
       CHECK.due("and its place", cells.point(1, 1), 1);
       CHECK.due("and the other axis", Check.written(cells, cells.writePoint(1, 1, 1)), "3.0");
     }
-    CHECK.of("Promise 11", "MANY, if some polynomial of degree 1 at least divides both: a number is none");
+    CHECK.of("Promise 11", "MANY, if some polynomial of degree 1 at least divides both", "a number alone is none");
     String[] few = {"2;4", "1;0", "0;1", "2*x;2*y", "5;5*x", "x^2-2;x^2-3", "x^2+1;x^2+2"};
     int[] counts = {0, 0, 0, 1, 0, 0, 0};
     for (int i = 0; i < few.length; i++) CHECK.due("meet of " + few[i], Check.meet(new CellDecide(), few[i]), counts[i]);
@@ -643,7 +664,7 @@ public final class EdgeCallsTest {
     least("2*x^2+2*x=1", "2*t^2+2*t-1");
     least("some y. y=999 and x=999*y^3", "t-996005996001");
     least("some y. 999*y=1 and 999*x=y^3", "996005996001*t-1");
-    CHECK.of("Promise 14", "- ahead of the first one, if it is below 0: the highest coefficient of a least form is above 0");
+    CHECK.of("Promise 14", "- ahead of the first one, if it is below 0", "in least form it never is");
     least("-5*x=3", "5*t+3");
     least("-x^2+3>0", "t^2-3");
   }
@@ -735,7 +756,7 @@ public final class EdgeCallsTest {
   }
 
   private static void atStays() {
-    CHECK.of("Promise 17", "what was written last: other calls write nothing");
+    CHECK.of("Promise 17", "what was written last", "other calls write nothing");
     CellDecide cells = solved("x=5");
     CHECK.due("write", cells.write(0, 0, 0), 1);
     cells.write(0, 0, 61);

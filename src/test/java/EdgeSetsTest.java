@@ -201,7 +201,7 @@ public final class EdgeSetsTest {
   }
 
   private static void commonPoints() {
-    CHECK.of(PART, "TWO CURVES: two polynomials, both 0 in common POINTS");
+    CHECK.of(PART, "TWO CURVES: two polynomials [..] both 0 in common POINTS");
     points("x;y", "1 (t#0, t#0)");
     points("1;y", "0");
     points("x^2+1;y", "0");

@@ -146,6 +146,8 @@ public final class EdgeTermsTest {
     bad(NO_TOKEN, "|z");
     bad(NO_TOKEN, "|xx<1");
     bad(NO_TOKEN, "|yx<1");
+    bad(NO_TOKEN, "|xz<1");
+    bad(NO_TOKEN, "|xa<1");
     bad(NO_TOKEN, "|notx<1");
     bad(NO_TOKEN, "x<1|andy<1");
     bad(NO_TOKEN, "|True");
@@ -189,6 +191,9 @@ public final class EdgeTermsTest {
     so(1, "1>-1");
     so(0, "1<-1");
     so(1, "1!=-1->-1<=-1");
+    for (String sign : new String[] {"<", "<=", "=", ">=", ">", "!="}) bad(MISPLACED, "x" + sign + "|");
+    bad(MISPLACED, "true->|");
+    bad(MISPLACED, "true==|");
     bad(MISPLACED, "x|==1");
     bad(MISPLACED, "x|->1");
     bad(MISPLACED, "x=|>1");
@@ -384,7 +389,7 @@ public final class EdgeTermsTest {
   }
 
   private static void misplacedEnds() {
-    CHECK.of("Terms", "2 a token that cannot come there. (the end)");
+    CHECK.of("Terms", "2 a token that cannot come there.", "the end");
     String[] texts = {"", "(", "some ", "some x ", "some x. ", "not ", "true and ", "true or ", "true -> ", "true == ", "x ", "x^ ", "x* ",
         "x+ ", "- ", "[ ", "[x ", "x< ", "x<- ", "x<[1 ", "(true ", "((true) ", "x^2"};
     for (String text : texts) bad(MISPLACED, text + "|");
