@@ -6,6 +6,7 @@ public final class DecideTest {
     constants();
     oneQuantifier();
     twoQuantifiers();
+    mostHeights();
     severalParts();
     refusals();
     places();
@@ -92,6 +93,16 @@ public final class DecideTest {
     decide("all y. some x. x^3+x*y+1=0", true);
     decide("some x. x^3=2 and (all y. y^3=2 -> y=x)", true);
     decide("some x. x^3-3*x+1=0 and (all y. y^3-3*y+1=0 -> y=x)", false);
+  }
+
+  /** Five curves with three heights each on every line. */
+  private static void mostHeights() {
+    String[] curves = {"y^3-y", "[y-2]*[y-3]*[y-4]", "[y-5]*[y-6]*[y-7]", "[y+2]*[y+3]*[y+4]", "[y+5]*[y+6]*[y+7]"};
+    decide("some x. some y. " + String.join(">0 and ", curves) + ">0", true);
+    decide("some x. some y. " + String.join("<0 and ", curves) + "<0", true);
+    decide("some x. some y. " + String.join("=0 and ", curves) + "=0", false);
+    decide("all x. all y. " + String.join("!=0 or ", curves) + "!=0", true);
+    decide("all x. all y. " + String.join("<=0 or ", curves) + "<=0", false);
   }
 
   private static void severalParts() {

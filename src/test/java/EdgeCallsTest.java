@@ -43,6 +43,7 @@ public final class EdgeCallsTest {
     writePoints();
     writePointRefusals();
     writePointLeasts();
+    writingTellsLength();
     atBytes();
     atStays();
     calls512();
@@ -731,6 +732,27 @@ public final class EdgeCallsTest {
     CHECK.due("x of the last", Check.written(cells, cells.writePointLeast(3, 0)), "t-1");
     for (int i : new int[] {LOWEST, -1, 4, HIGHEST}) CHECK.due("writePointLeast(" + i + ", 0)", cells.writePointLeast(i, 0), OUTSIDE);
     for (int axis : new int[] {LOWEST, -1, 2, HIGHEST}) CHECK.due("writePointLeast(0, " + axis + ")", cells.writePointLeast(0, axis), OUTSIDE);
+  }
+
+  private static void writingTellsLength() {
+    CHECK.of("2 NUMBERS, SETS", "writing: how many bytes, read by at().");
+    CellDecide cells = solved("x^2=2");
+    Check.meet(cells, "2*x-1;y^2-3");
+    length(cells, "write(0, 0, 0)", cells.write(0, 0, 0), 2);
+    length(cells, "write(1, 0, 0)", cells.write(1, 0, 0), 1);
+    length(cells, "write(0, 1, 60)", cells.write(0, 1, 60), 63);
+    length(cells, "writeLeast(1, 1)", cells.writeLeast(1, 1), 5);
+    length(cells, "writePoint(0, 1, 60)", cells.writePoint(0, 1, 60), 63);
+    length(cells, "writePoint(1, 0, 1)", cells.writePoint(1, 0, 1), 3);
+    length(cells, "writePointLeast(0, 0)", cells.writePointLeast(0, 0), 5);
+    length(cells, "writePointLeast(0, 1)", cells.writePointLeast(0, 1), 5);
+  }
+
+  private static void length(CellDecide cells, String call, int got, int want) {
+    int bytes = 0;
+    while (cells.at(bytes) != NONE) bytes++;
+    CHECK.due(call, got, want);
+    CHECK.due("bytes of " + call, bytes, want);
   }
 
   private static void atBytes() {

@@ -11,7 +11,7 @@ public final class FaceTest {
   public static void main(String[] args) {
     Check check = new Check();
     Set<String> want = new TreeSet<>(Set.of("NONE=-1", "STATE=-101", "OUTSIDE=-102", "MANY=-103", "CellDecide()",
-        "int feed(int, int, int, int, int)", "void end(int)", "int read()", "int fault()", "int decide()", "int holds(int, int, int, int)",
+        "int feed(int, int, int, int, int) throws IllegalStateException", "void end(int) throws IllegalArgumentException", "int read()", "int fault()", "int decide()", "int holds(int, int, int, int)",
         "int solve()", "int interval(int, int)", "int members()", "int meet()", "int point(int, int)", "int write(int, int, int)",
         "int writeLeast(int, int)", "int writePoint(int, int, int)", "int writePointLeast(int, int)", "int at(int)"));
     Set<String> got = new TreeSet<>();
@@ -22,7 +22,7 @@ public final class FaceTest {
       if (isOpen(c)) got.add("CellDecide(" + parameters(c.getParameterTypes()) + ")");
     }
     for (Method m : CellDecide.class.getDeclaredMethods()) {
-      if (isOpen(m)) got.add(m.getReturnType() + " " + m.getName() + "(" + parameters(m.getParameterTypes()) + ")");
+      if (isOpen(m)) got.add(m.getReturnType() + " " + m.getName() + "(" + parameters(m.getParameterTypes()) + ")" + thrown(m));
     }
     check.due("the face", got.toString(), want.toString());
     check.due("the class is final", Modifier.isFinal(CellDecide.class.getModifiers()) ? 1 : 0, 1);
@@ -31,6 +31,12 @@ public final class FaceTest {
 
   private static boolean isOpen(Member member) {
     return !Modifier.isPrivate(member.getModifiers()) && !member.isSynthetic();
+  }
+
+  private static String thrown(Method method) {
+    StringBuilder text = new StringBuilder();
+    for (Class<?> type : method.getExceptionTypes()) text.append(" throws ").append(type.getSimpleName());
+    return text.toString();
   }
 
   private static String constant(Field field) {

@@ -5,6 +5,7 @@ public final class SolveTest {
   public static void main(String[] args) {
     oneVariable();
     underQuantifiers();
+    manyBreaks();
     leastPolynomials();
     degreesAndPlaces();
     digits();
@@ -64,6 +65,25 @@ public final class SolveTest {
     solve("some x. [x-y]^2=0 and x^2+y^2=1", "[2*t^2-1#0, 2*t^2-1#0] [2*t^2-1#1, 2*t^2-1#1] : 2");
     solve("some y. y^3=2 and x=y^2", "[t^3-4#0, t^3-4#0] : 1");
     solve("all y. y^3-3*y+1=0 -> y<x", "(t^3-3*t+1#2, all) : -103");
+  }
+
+  /** Curves that turn, cross and run off in many places, of which those on the line y = x alone are ends. */
+  private static void manyBreaks() {
+    String[] curves = {"x*y^2-3*y+2*x", "[x-1]*y^2-15*y+x+24", "[x-6]*y^2-8*y+x+60", "[x+1]*y^2-33*y+x-60"};
+    StringBuilder none = new StringBuilder("some y. y=x"), numbers = new StringBuilder(), between = new StringBuilder("(all, t+5#0)");
+    for (String curve : curves) none.append(" and ").append(curve).append("!=0");
+    for (int n = -5; n <= 6; n++) {
+      String here = whole(n), next = n == 6 ? "all" : whole(n + 1);
+      numbers.append(n == -5 ? "[" : " [").append(here).append(", ").append(here).append(']');
+      between.append(" (").append(here).append(", ").append(next).append(')');
+    }
+    solve(none.toString(), between + " : -103");
+    solve("some y. y=x and (" + String.join("=0 or ", curves) + "=0)", numbers + " : 12");
+    solve("all y. y=x -> (" + String.join("!=0 and ", curves) + "!=0)", between + " : -103");
+  }
+
+  private static String whole(int n) {
+    return (n == 0 ? "t" : n < 0 ? "t+" + -n : "t-" + n) + "#0";
   }
 
   private static void leastPolynomials() {
