@@ -1433,10 +1433,20 @@ public final class CellDecide {
 
   /** Splits a polynomial into those that cannot be split: modulo a prime (Berlekamp), lifted (Hensel), then joined. */
   private static final class Splitter {
-    private static final int[] PRIMES = {13, 17, 19, 23, 29, 31, 37, 41, 43, 47, 53, 59, 61, 67, 71, 73, 79, 83, 89, 97, 101, 103, 107,
-        109, 113, 127, 131, 137, 139, 149, 151, 157, 163, 167, 173, 179, 181, 191, 193, 197, 199, 211, 223, 227, 229, 233, 239, 241, 251};
-    static final int FEW = 3, ALL = 49;
-    private static final int MOST = 10, ROOM = 2 * MOST + 2, MOST_PRIME = 251;
+    /**
+     * Enough that one of them fits: one that does not divides the highest coefficient or the discriminant. What comes here has
+     * degree 9 at most and coefficients whose sizes add up to less than 7 * 10^21 (or degree 6 at most, and 5 * 10^22), so
+     * that the product of those two stays below 10^380 (Mahler's bound); the product of all these primes is above 10^382.
+     */
+    private static final int[] PRIMES = {13, 17, 19, 23, 29, 31, 37, 41, 43, 47, 53, 59, 61, 67, 71, 73, 79, 83, 89, 97, 101, 103,
+        107, 109, 113, 127, 131, 137, 139, 149, 151, 157, 163, 167, 173, 179, 181, 191, 193, 197, 199, 211, 223, 227, 229, 233, 239,
+        241, 251, 257, 263, 269, 271, 277, 281, 283, 293, 307, 311, 313, 317, 331, 337, 347, 349, 353, 359, 367, 373, 379, 383, 389,
+        397, 401, 409, 419, 421, 431, 433, 439, 443, 449, 457, 461, 463, 467, 479, 487, 491, 499, 503, 509, 521, 523, 541, 547, 557,
+        563, 569, 571, 577, 587, 593, 599, 601, 607, 613, 617, 619, 631, 641, 643, 647, 653, 659, 661, 673, 677, 683, 691, 701, 709,
+        719, 727, 733, 739, 743, 751, 757, 761, 769, 773, 787, 797, 809, 811, 821, 823, 827, 829, 839, 853, 857, 859, 863, 877, 881,
+        883, 887, 907, 911, 919, 929};
+    static final int FEW = 3, ALL = 153;
+    private static final int MOST = 10, ROOM = 2 * MOST + 2, MOST_PRIME = 929;
 
     private final Polys polys;
     private int prime = 2;
