@@ -57,6 +57,12 @@ public final class SolveTest {
     solve("all y. [x^2-2]*y=0 and x>0", "[t^2-2#1, t^2-2#1] : 1");
     solve("(some y. y^2=x) and (all y. y^2!=x-1)", "[t#0, t-1#0) : -103");
     solve("x^2=4 and (some y. y^2=x)", "[t-2#0, t-2#0] : 1");
+    // curves that have a line or a conic in common: what is left of them meets where the whole ones have no more to tell
+    solve("some y. [y+100]*[y-x]>0 and [y+100]*[y+x]<0", "(all, t#0) (t-100#0, all) : -103");
+    solve("some y. [y-9]^2*[y-x]<0 and [y-9]^2*[y+x]>0", "(t#0, all) : -103");
+    solve("some y. [y-9]*[y-x^2]=0 and [y-9]*[y-2]=0 and y<9", "[t^2-2#0, t^2-2#0] [t^2-2#1, t^2-2#1] : 2");
+    solve("all y. [y^2+x^2+1]*[y-x]<=0 or [y^2+x^2+1]*[y-3]>=0", "[t-3#0, all) : -103");
+    solve("some y. [y-x]^2*[y+x]>0 and [y-x]*[y+x]^2<0", "(t#0, all) : -103");
     solve("some y. y>0", "-101 : -101");
     solve("x>0 and (some y. y<0)", "(t#0, all) : -103");
     solve("x>0 and (all y. y<0)", " : 0");
