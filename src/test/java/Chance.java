@@ -28,10 +28,15 @@ final class Chance {
     return text.toString();
   }
 
+  private static String term(int coefficient, String variable) {
+    return coefficient == 0 ? "" : (coefficient < 0 ? "-" : "+") + Math.abs(coefficient) + "*" + variable;
+  }
+
   /** A line, often one that came before. */
   private String line() {
     if (lines.size() > MOST_LINES) lines.clear();
-    if (lines.isEmpty() || pick(2) == 0) lines.add("[" + sum(1, 1 + pick(3)) + "]");
+    int x = pick(7) - 3, y = pick(7) - 3, c = pick(9) - 4;
+    if (lines.isEmpty() || pick(2) == 0) lines.add("[" + c + term(x, "x") + term(y, "y") + "]");
     return lines.get(pick(lines.size()));
   }
 
@@ -51,7 +56,7 @@ final class Chance {
     int comparisons = 1 + pick(3);
     for (int i = 0; i < comparisons; i++) {
       text.append(i == 0 ? "" : pick(2) == 0 ? " and " : " or ").append(pick(4) == 0 ? "not " : "");
-      text.append(curve()).append(SIGNS[pick(SIGNS.length)]).append(pick(2) == 0 ? 0 : pick(3));
+      text.append(curve()).append(SIGNS[pick(SIGNS.length)]).append(pick(4) == 0 ? pick(9) : 0);
     }
     return text.toString();
   }
