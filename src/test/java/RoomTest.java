@@ -5,35 +5,65 @@ import java.lang.management.ManagementFactory;
 public final class RoomTest {
   private static final int CALLS = 512;
   private static final Check CHECK = new Check();
+  private static final ThreadMXBean THREADS = (ThreadMXBean) ManagementFactory.getThreadMXBean();
 
   public static void main(String[] args) {
     room();
+    roomIsUsedAgain();
     anyOrder();
     CHECK.finish();
   }
 
+  private static final String[] DEAR = {
+    "some y. 878*y^3-374*x^3+219*x*y-327<=0 or 510*y^3-453*x^3+891*x^2-299!=0 and 222*y^3-952*x^3+280*x^2*y-335<0"
+        + " and 867*y^3-383*x^3+190*x*y-365>=0",
+    "some y. x^3+5*x^2*y-7*x*y^2+3*y^3+11*x*y-13*y+2=0 and 2*x^3-5*x^2*y+9*x*y^2-4*y^3+x^2-6*y+8=0",
+    "all x. some y. y^3-3*x*y+x^3=1 or x^2+y^2<1"};
+  private static final String CURVES = "x^3+5*x^2*y-7*x*y^2+3*y^3+11*x*y-13*y+2;2*x^3-5*x^2*y+9*x*y^2-4*y^3+x^2-6*y+8";
+
+  private static long made() {
+    return THREADS.getThreadAllocatedBytes(Thread.currentThread().getId());
+  }
+
+  private static void askAll(CellDecide cells) {
+    cells.decide();
+    if (cells.solve() > 0) {
+      cells.write(0, 1, 60);
+      cells.writeLeast(0, 1);
+    }
+  }
+
   /** One object, dear statements in turn: all of it within a third of 7.3 million elements of four bytes. */
   private static void room() {
-    String[] texts = {
-      "some y. 878*y^3-374*x^3+219*x*y-327<=0 or 510*y^3-453*x^3+891*x^2-299!=0 and 222*y^3-952*x^3+280*x^2*y-335<0"
-          + " and 867*y^3-383*x^3+190*x*y-365>=0",
-      "some y. x^3+5*x^2*y-7*x*y^2+3*y^3+11*x*y-13*y+2=0 and 2*x^3-5*x^2*y+9*x*y^2-4*y^3+x^2-6*y+8=0",
-      "all x. some y. y^3-3*x*y+x^3=1 or x^2+y^2<1"};
-    ThreadMXBean threads = (ThreadMXBean) ManagementFactory.getThreadMXBean();
-    long self = Thread.currentThread().getId();
-    long before = threads.getThreadAllocatedBytes(self);
+    long before = made();
     CellDecide cells = new CellDecide();
     for (int call = 0; call < CALLS; call += 12) {
       cells.feed(0, 0, 0, 0, 0);
-      Check.read(cells, texts[call / 12 % texts.length]);
-      cells.decide();
-      if (cells.solve() > 0) {
-        cells.write(0, 1, 60);
-        cells.writeLeast(0, 1);
-      }
+      Check.read(cells, DEAR[call / 12 % DEAR.length]);
+      askAll(cells);
     }
-    long bytes = threads.getThreadAllocatedBytes(self) - before;
+    long bytes = made() - before;
     CHECK.due("bytes that a run makes: " + bytes, bytes < 4 * 7300000L / 3 ? 1 : 0, 1);
+  }
+
+  /** What was once asked needs no more room when it is asked again. */
+  private static void roomIsUsedAgain() {
+    CellDecide cells = new CellDecide();
+    long bytes = 0;
+    for (int round = 0; round < 120; round++) {
+      for (String text : DEAR) {
+        Check.read(cells, text);
+        long before = made();
+        askAll(cells);
+        if (round > 0) bytes += made() - before;
+      }
+      Check.tape(cells, CURVES);
+      long before = made();
+      if (cells.meet() > 0) cells.writePoint(0, 1, 60);
+      if (round > 0) bytes += made() - before;
+    }
+    // a row that grows once is longer than this
+    CHECK.due("bytes that later rounds make: " + bytes, bytes < 5000 ? 1 : 0, 1);
   }
 
   private static void anyOrder() {
