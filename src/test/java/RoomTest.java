@@ -50,7 +50,7 @@ public final class RoomTest {
   private static void roomIsUsedAgain() {
     CellDecide cells = new CellDecide();
     long bytes = 0;
-    for (int round = 0; round < 120; round++) {
+    for (int round = 0; round < 10; round++) {
       for (String text : DEAR) {
         Check.read(cells, text);
         long before = made();
